@@ -1,0 +1,116 @@
+import java.io.IOException;
+import java.lang.reflect.Field;
+import java.lang.reflect.Member;
+import java.lang.reflect.Method;
+import java.lang.reflect.Modifier;
+import java.nio.file.Files;
+import java.nio.file.Path;
+import java.util.ArrayList;
+import java.util.Arrays;
+import java.util.List;
+import java.util.TreeSet;
+import java.util.regex.Matcher;
+import java.util.regex.Pattern;
+
+/** The public face of the document, and those rules of the language that a test can look at. */
+public final class FaceTest {
+    private static final String SOURCE = "src/main/java/PulledPanels.java";
+    private static final List<String> METHODS = List.of("setRoom(int)", "plan(int,int)", "readPlan()", "write()",
+        "pull(int)", "pin(int,boolean)", "wipe(int)", "photo(int)", "ask(int)", "type(char)", "clearText()", "undo()",
+        "keep()", "restore()", "panel(int,int)", "step(int,int)", "photoOf(int,int)", "wouldBe(int)",
+        "photosNeeded()", "count(int)");
+    private static final List<String> CONSTANTS = List.of("UNKNOWN", "BAD_VALUE", "FULL", "NOT_POSSIBLE", "NONE");
+    private static final List<String> FORBIDDEN = List.of("\\bthrow\\b", "\\bthrows\\b", "\\btry\\b", "\\bcatch\\b",
+        "\\bfinally\\b", "\\bsynchronized\\b", "\\bassert\\b", "\\bpackage\\b", "\\bimport\\b", "->", "::",
+        "\\bSystem\\.(?!arraycopy\\b)", "\\bObject\\b", "\\bstatic\\s*\\{", "\\bnative\\b", "\\bvolatile\\b",
+        "\\bprotected\\b", "\\btoString\\b", "\\bhashCode\\b", "Exact\\b");
+
+    public static void main(String[] args) throws IOException {
+        face();
+        classes();
+        source(Files.readString(Path.of(args.length > 0 ? args[0] : SOURCE)));
+        Check.end();
+    }
+
+    private static void face() {
+        Check.part("face");
+        int modifiers = PulledPanels.class.getModifiers();
+        Check.holds("public and final", Modifier.isPublic(modifiers) && Modifier.isFinal(modifiers));
+        Check.due("constructors", PulledPanels.class.getDeclaredConstructors().length, 1);
+        Check.due("public constructors", PulledPanels.class.getConstructors().length, 1);
+        TreeSet<String> open = new TreeSet<>();
+        for (Method method : PulledPanels.class.getDeclaredMethods()) {
+            if (!Modifier.isPrivate(method.getModifiers())) {
+                open.add(signature(method));
+                Check.holds(method + " is public", Modifier.isPublic(method.getModifiers()));
+                Check.holds(method + " returns an int", method.getReturnType() == int.class);
+            }
+        }
+        Check.holds("the methods are " + METHODS, open.equals(new TreeSet<>(METHODS)));
+        TreeSet<String> constants = new TreeSet<>();
+        for (Field field : PulledPanels.class.getDeclaredFields()) {
+            if (!Modifier.isPrivate(field.getModifiers())) {
+                constants.add(field.getName());
+                Check.holds(field + " is a public int", Modifier.isPublic(field.getModifiers()) && field.getType() == int.class);
+            }
+        }
+        Check.holds("the constants are " + CONSTANTS, constants.equals(new TreeSet<>(CONSTANTS)));
+        Check.due("UNKNOWN", PulledPanels.UNKNOWN, -1);
+        Check.due("BAD_VALUE", PulledPanels.BAD_VALUE, -2);
+        Check.due("FULL", PulledPanels.FULL, -3);
+        Check.due("NOT_POSSIBLE", PulledPanels.NOT_POSSIBLE, -4);
+        Check.due("NONE", PulledPanels.NONE, -5);
+    }
+
+    private static String signature(Method method) {
+        StringBuilder text = new StringBuilder(method.getName()).append('(');
+        for (Class<?> type : method.getParameterTypes()) {
+            text.append(text.charAt(text.length() - 1) == '(' ? "" : ",").append(type.getName());
+        }
+        return text.append(')').toString();
+    }
+
+    private static void classes() {
+        Check.part("classes");
+        List<Class<?>> all = new ArrayList<>(Arrays.asList(PulledPanels.class.getDeclaredClasses()));
+        for (Class<?> inside : all) {
+            Check.holds(inside + " is static", Modifier.isStatic(inside.getModifiers()));
+            Check.holds(inside + " is not public", !Modifier.isPublic(inside.getModifiers()));
+            Check.due(inside + " has classes of its own", inside.getDeclaredClasses().length, 0);
+            for (Method method : inside.getDeclaredMethods()) {
+                Check.holds(method + " bears no public name", METHODS.stream().noneMatch(m -> m.startsWith(method.getName() + "(")));
+            }
+        }
+        all.add(PulledPanels.class);
+        Check.holds("some twelve classes", all.size() <= 12);
+        for (Class<?> each : all) {
+            long fields = Arrays.stream(each.getDeclaredFields()).filter(f -> !isConstant(f)).count();
+            Check.holds(each + " has some twenty fields", fields <= 20);
+            for (Field field : each.getDeclaredFields()) {
+                Check.holds(field + " is final if static", isConstant(field) || !Modifier.isStatic(field.getModifiers()));
+            }
+            for (Method method : each.getDeclaredMethods()) {
+                Check.holds(method + " has at most seven parameters", method.getParameterCount() <= 7);
+            }
+        }
+    }
+
+    private static boolean isConstant(Member member) {
+        return Modifier.isStatic(member.getModifiers()) && Modifier.isFinal(member.getModifiers());
+    }
+
+    private static void source(String source) {
+        Check.part("source");
+        String code = source.replaceAll("(?s)/\\*.*?\\*/", "").replaceAll("//[^\n]*", "");
+        for (String forbidden : FORBIDDEN) {
+            Matcher matcher = Pattern.compile(forbidden).matcher(code);
+            Check.holds("nothing like " + forbidden, !matcher.find());
+        }
+        Check.holds("signs 1 to 127 alone", source.chars().allMatch(c -> c >= 1 && c <= 127));
+        Matcher method = Pattern.compile("(?m)^( +)[^ \n/*][^\n]*\\) \\{\n(?s:.*?)\n\\1\\}").matcher(code);
+        while (method.find()) {
+            long lines = method.group().lines().count();
+            Check.holds("sixty lines: " + method.group().lines().findFirst().orElse(""), lines <= 60);
+        }
+    }
+}
