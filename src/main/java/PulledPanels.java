@@ -585,10 +585,12 @@ public final class PulledPanels {
                 } else {
                     tally.lost++;
                 }
-            } else if (columnOf(panel) != columnOf(boards.inUse)) {
-                boards.bringToFront(panel);
             } else if (!boards.isInFront(panel)) {
-                tally.hidden++;
+                if (columnOf(panel) == columnOf(boards.inUse)) {
+                    tally.hidden++;
+                } else {
+                    boards.turn(columnOf(panel));
+                }
             }
         }
 

@@ -534,6 +534,59 @@ public final class PromisesTest {
         x.plan(1, 0);
         x.undo();
         due("the text is no part of it", x.count(15), 1);
+        undoOfCounts();
+        undoOfPhotos();
+    }
+
+    private static void undoOfCounts() {
+        PulledPanels x = full(2);
+        x.plan(1, 0b11);
+        x.plan(1, 0b11);
+        x.write();
+        x.photo(0);
+        writeTimes(x, 2);
+        due("hidden, and pulled", x.count(3), 3);
+        x.wipe(1);
+        x.ask(0);
+        x.wipe(0);
+        x.ask(0);
+        x.ask(1);
+        x.write();
+        for (int what = 7; what <= 11; what++) {
+            due("count(" + what + ")", x.count(what), 1);
+        }
+        x.undo();
+        due("a photo alone, undone", x.count(7), 0);
+        due("lost, undone", x.count(8), 0);
+        x.undo();
+        due("lost questions, undone", x.count(11), 0);
+        x.undo();
+        due("questions from photos, undone", x.count(10), 0);
+        x = full(1);
+        x.plan(4, 1);
+        writeTimes(x, 2);
+        due("hidden", x.count(6), 1);
+        x.undo();
+        due("hidden, undone", x.count(6), 0);
+    }
+
+    private static void undoOfPhotos() {
+        PulledPanels x = full(3);
+        writeTimes(x, 3);
+        x.keep();
+        x.photo(1);
+        x.undo();
+        x.photo(2);
+        due("in place of the photo that was undone", x.photoOf(0, 0), 2);
+        due("its steps", x.photoOf(0, 1), 4);
+        x.restore();
+        x.photo(1);
+        x.undo();
+        x.undo();
+        due("the photo is there again", x.photoOf(0, 0), 2);
+        due("its steps", x.photoOf(0, 1), 4);
+        due("the step is on it", x.step(2, 4), 1);
+        due("the other step is not", x.step(1, 4), 0);
     }
 
     private static void historyHoldsFour() {
@@ -706,6 +759,8 @@ public final class PromisesTest {
         due("photoOf(1, 1)", x.photoOf(1, 1), 4);
         x.wipe(2);
         due("photoOf(1, 1) after a wipe", x.photoOf(1, 1), 4);
+        due("the first photo's step is still on one", x.step(0, 4), 1);
+        due("the step on no photo", x.step(1, 4), 0);
         for (int photo : new int[] {2, 39, 40, 41, MOST}) {
             due("photoOf(" + photo + ", 0)", x.photoOf(photo, 0), NONE);
             due("photoOf(" + photo + ", 2)", x.photoOf(photo, 2), BAD_VALUE);
@@ -758,6 +813,20 @@ public final class PromisesTest {
             due("from now on: wouldBe(" + what + ")", x.wouldBe(what), 0);
         }
         due("but so far", x.count(6), 1);
+        x = full(2);
+        x.plan(1, 0b11);
+        writeTimes(x, 2);
+        x.photo(1);
+        x.wipe(1);
+        x.pull(0);
+        x.wipe(0);
+        x.write();
+        due("a photo alone, so far", x.count(7), 1);
+        due("lost, so far", x.count(8), 1);
+        x.plan(1, 0b11);
+        x.plan(1, 0b10);
+        due("a photo alone, from now on", x.wouldBe(3), 2);
+        due("lost, from now on", x.wouldBe(4), 1);
     }
 
     private static void wouldBeUpToOne() {
