@@ -1,3 +1,7 @@
+import java.lang.reflect.Method;
+import java.util.Map;
+import java.util.TreeMap;
+
 /** Counts checks and prints those that fail; a test's main method ends with end(). */
 final class Check {
     private static int good = 0;
@@ -24,6 +28,22 @@ final class Check {
 
     static void holds(String what, boolean condition) {
         due(what, condition ? 1 : 0, 1);
+    }
+
+    /** Runs all methods of the class that are named after a promise, so that none is left out of a list. */
+    static void promises(Class<?> tests) throws ReflectiveOperationException {
+        Map<String, Method> named = new TreeMap<>();
+        for (Method method : tests.getDeclaredMethods()) {
+            if (method.getName().startsWith("promise")) {
+                named.put(method.getName(), method);
+            }
+        }
+        for (Method method : named.values()) {
+            int before = good + bad;
+            method.setAccessible(true);
+            method.invoke(null);
+            holds(method.getName() + " checks something", good + bad > before);
+        }
     }
 
     static void end() {

@@ -1,9 +1,11 @@
 import java.util.Random;
 
-/** Long runs with fixed seeds, and all short texts, against the plain model. */
+/** Runs with fixed seeds, and all short texts, against the plain model; no object has more than 512 calls. */
 public final class ModelTest {
-    private static final int RUNS = 600;
+    private static final int RUNS = 12000;
     private static final int CALLS = 512;
+    /** The calls of the dearest change: a text that is emptied, typed and read. */
+    private static final int DEAREST = 72;
     private static final String SIGNS = "0123456789;;;<<,,x";
     private static final char[] SHORT = {'0', '1', '2', '9', ';', '<', ','};
 
@@ -11,28 +13,45 @@ public final class ModelTest {
     private final PulledPanels real = new PulledPanels();
     private final PlainModel model = new PlainModel();
     private final boolean small;
+    private final boolean manyPhotos;
+    private int calls = 0;
 
     private ModelTest(long seed) {
         random = new Random(seed);
         small = seed % 3 != 0;
+        manyPhotos = seed % 5 == 0;
     }
 
     public static void main(String[] args) {
         for (long seed = 0; seed < RUNS; seed++) {
             Check.part("seed " + seed);
-            ModelTest run = new ModelTest(seed);
-            for (int call = 0; call < CALLS; call++) {
-                run.change();
-                if (call % 8 == 0) {
-                    run.compareAll();
-                }
-            }
+            new ModelTest(seed).run();
         }
         Check.part("short texts");
         for (int first : new int[] {0, 1, 2, 10, 12, 13, 20, 21, 22, 29, 30}) {
             shortTexts(first, "", 4);
         }
         Check.end();
+    }
+
+    /** Changes, with questions among them, and questions alone behind the last change. */
+    private void run() {
+        int changing = any(CALLS - DEAREST);
+        boolean alone = any(2) == 0;
+        while (calls < changing) {
+            change();
+            if (!alone && any(4) == 0) {
+                compareOne();
+            }
+        }
+        while (calls < CALLS) {
+            compareOne();
+        }
+    }
+
+    private void due(String what, int got, int want) {
+        calls++;
+        Check.due(what, got, want);
     }
 
     private static void shortTexts(int first, String text, int more) {
@@ -77,39 +96,39 @@ public final class ModelTest {
     }
 
     private void change() {
-        int kind = any(100);
+        int kind = manyPhotos && any(3) == 0 ? 60 : any(100);
         if (kind < 30) {
-            Check.due("write()", real.write(), model.write());
+            due("write()", real.write(), model.write());
         } else if (kind < 45) {
             changePlan();
         } else if (kind < 60) {
             int step = near(0, Math.max(0, model.count(1) - 1));
-            Check.due("ask(" + step + ")", real.ask(step), model.ask(step));
+            due("ask(" + step + ")", real.ask(step), model.ask(step));
         } else if (kind < 70) {
             int panel = near(0, 5);
-            Check.due("photo(" + panel + ")", real.photo(panel), model.photo(panel));
+            due("photo(" + panel + ")", real.photo(panel), model.photo(panel));
         } else if (kind < 77) {
             int column = near(0, 2);
-            Check.due("pull(" + column + ")", real.pull(column), model.pull(column));
+            due("pull(" + column + ")", real.pull(column), model.pull(column));
         } else if (kind < 83) {
             int panel = near(0, 5);
             boolean pinned = any(5) < 2;
-            Check.due("pin(" + panel + ", " + pinned + ")", real.pin(panel, pinned), model.pin(panel, pinned));
+            due("pin(" + panel + ", " + pinned + ")", real.pin(panel, pinned), model.pin(panel, pinned));
         } else if (kind < 86) {
             int panel = near(0, 5);
-            Check.due("wipe(" + panel + ")", real.wipe(panel), model.wipe(panel));
+            due("wipe(" + panel + ")", real.wipe(panel), model.wipe(panel));
         } else if (kind < 88) {
             int lines = small ? near(4, 8) : near(4, 20);
-            Check.due("setRoom(" + lines + ")", real.setRoom(lines), model.setRoom(lines));
+            due("setRoom(" + lines + ")", real.setRoom(lines), model.setRoom(lines));
         } else if (kind < 93) {
-            Check.due("undo()", real.undo(), model.undo());
+            due("undo()", real.undo(), model.undo());
         } else if (kind < 95) {
-            Check.due("keep()", real.keep(), model.keep());
+            due("keep()", real.keep(), model.keep());
         } else if (kind < 96) {
-            Check.due("restore()", real.restore(), model.restore());
+            due("restore()", real.restore(), model.restore());
         } else {
             typeSome();
-            Check.due("readPlan() of " + model.text, real.readPlan(), model.readPlan());
+            due("readPlan() of " + model.text, real.readPlan(), model.readPlan());
         }
     }
 
@@ -120,16 +139,16 @@ public final class ModelTest {
         if (any(10) == 0) {
             needs = any(3) == 0 ? random.nextInt() : needs | 1 << number;
         }
-        Check.due("plan(" + lines + ", " + needs + ")", real.plan(lines, needs), model.plan(lines, needs));
+        due("plan(" + lines + ", " + needs + ")", real.plan(lines, needs), model.plan(lines, needs));
     }
 
     private void typeSome() {
         if (any(3) > 0) {
-            Check.due("clearText()", real.clearText(), model.clearText());
+            due("clearText()", real.clearText(), model.clearText());
         }
         String some = any(2) == 0 ? someSigns() : somePlan();
         for (char c : some.toCharArray()) {
-            Check.due("type", real.type(c), model.type(c));
+            due("type", real.type(c), model.type(c));
         }
     }
 
@@ -156,24 +175,28 @@ public final class ModelTest {
         return some.toString();
     }
 
-    private void compareAll() {
-        for (int what = -1; what <= 16; what++) {
-            Check.due("count(" + what + ")", real.count(what), model.count(what));
+    private void compareOne() {
+        int kind = any(20);
+        if (kind < 4) {
+            int what = near(0, 15);
+            due("count(" + what + ")", real.count(what), model.count(what));
+        } else if (kind < 9) {
+            int panel = near(0, 5);
+            int what = near(0, 5);
+            due("panel(" + panel + ", " + what + ")", real.panel(panel, what), model.panel(panel, what));
+        } else if (kind < 14) {
+            int step = near(0, Math.max(0, model.count(0) - 1));
+            int what = near(0, 6);
+            due("step(" + step + ", " + what + ")", real.step(step, what), model.step(step, what));
+        } else if (kind < 16) {
+            int photo = near(0, Math.max(0, model.count(5) - 1));
+            int what = near(0, 1);
+            due("photoOf(" + photo + ", " + what + ")", real.photoOf(photo, what), model.photoOf(photo, what));
+        } else if (kind < 19) {
+            int what = near(0, 5);
+            due("wouldBe(" + what + ")", real.wouldBe(what), model.wouldBe(what));
+        } else {
+            due("photosNeeded()", real.photosNeeded(), model.photosNeeded());
         }
-        for (int what = -1; what <= 7; what++) {
-            Check.due("wouldBe(" + what + ")", real.wouldBe(what), model.wouldBe(what));
-            for (int panel = -1; panel <= 6; panel++) {
-                Check.due("panel(" + panel + ", " + what + ")", real.panel(panel, what), model.panel(panel, what));
-            }
-            for (int step = -1; step <= 30; step++) {
-                Check.due("step(" + step + ", " + what + ")", real.step(step, what), model.step(step, what));
-            }
-        }
-        for (int photo = -1; photo <= 41; photo++) {
-            for (int what = -1; what <= 2; what++) {
-                Check.due("photoOf(" + photo + ", " + what + ")", real.photoOf(photo, what), model.photoOf(photo, what));
-            }
-        }
-        Check.due("photosNeeded()", real.photosNeeded(), model.photosNeeded());
     }
 }

@@ -43,39 +43,6 @@ public final class PromisesTest {
         Check.due(what, got, want);
     }
 
-    /** Plans steps of so many lines, without needs. */
-    private static PulledPanels planned(int... lines) {
-        PulledPanels x = new PulledPanels();
-        for (int each : lines) {
-            x.plan(each, 0);
-        }
-        return x;
-    }
-
-    /** Panels with room for 4 lines, and so many steps of 4 lines: each step fills a panel. */
-    private static PulledPanels full(int steps) {
-        PulledPanels x = new PulledPanels();
-        x.setRoom(4);
-        for (int i = 0; i < steps; i++) {
-            x.plan(4, 0);
-        }
-        return x;
-    }
-
-    private static void writeTimes(PulledPanels x, int times) {
-        for (int i = 0; i < times; i++) {
-            x.write();
-        }
-    }
-
-    private static int read(PulledPanels x, String text) {
-        x.clearText();
-        for (char c : text.toCharArray()) {
-            x.type(c);
-        }
-        return x.readPlan();
-    }
-
     private static void newObject() {
         Check.part("1 new object");
         PulledPanels x = new PulledPanels();
@@ -112,21 +79,21 @@ public final class PromisesTest {
         due("setRoom(20)", x.setRoom(20), 4);
         due("count(13)", x.count(13), 20);
         due("count(14)", x.count(14), 2);
-        x = planned(4, 3, 2);
-        writeTimes(x, 3);
+        x = Lectures.planned(4, 3, 2);
+        Lectures.writeTimes(x, 3);
         due("setRoom(8) with 9 lines", x.setRoom(8), NOT_POSSIBLE);
         due("setRoom(3) with 9 lines", x.setRoom(3), BAD_VALUE);
         due("setRoom(9) with 9 lines", x.setRoom(9), 12);
         due("setRoom(9) again", x.setRoom(9), NONE);
         x.pull(0);
         due("setRoom(8) with 9 lines behind", x.setRoom(8), NOT_POSSIBLE);
-        x = full(7);
+        x = Lectures.full(7);
         x.setRoom(8);
-        writeTimes(x, 7);
+        Lectures.writeTimes(x, 7);
         due("setRoom(7) with 8 lines on panels not in use", x.setRoom(7), NOT_POSSIBLE);
         due("count(13)", x.count(13), 8);
-        x = planned(4, 4, 4, 1);
-        writeTimes(x, 4);
+        x = Lectures.planned(4, 4, 4, 1);
+        Lectures.writeTimes(x, 4);
         due("the step beyond 12 lines", x.step(3, 3), 1);
         due("setRoom(13)", x.setRoom(13), 12);
     }
@@ -164,17 +131,17 @@ public final class PromisesTest {
     private static void readPlan() {
         Check.part("4 readPlan");
         PulledPanels x = new PulledPanels();
-        due("one step", read(x, "3"), 1);
+        due("one step", Lectures.read(x, "3"), 1);
         due("the text stays", x.count(15), 1);
         due("read again", x.readPlan(), 2);
         due("step(1, 0)", x.step(1, 0), 3);
-        due("with needs", read(x, "1<0;2<0,2;4<3,1,0"), 5);
+        due("with needs", Lectures.read(x, "1<0;2<0,2;4<3,1,0"), 5);
         due("step(2, 1)", x.step(2, 1), 1);
         due("step(3, 0)", x.step(3, 0), 2);
         due("step(3, 1)", x.step(3, 1), 5);
         due("step(4, 0)", x.step(4, 0), 4);
         due("step(4, 1)", x.step(4, 1), 11);
-        due("a number twice", read(x, "1<2,2"), 6);
+        due("a number twice", Lectures.read(x, "1<2,2"), 6);
         due("step(5, 1)", x.step(5, 1), 4);
         due("one act each", x.count(14), 4);
         due("undo()", x.undo(), 3);
@@ -194,7 +161,7 @@ public final class PromisesTest {
             6, 8, 9};
         for (int i = 0; i < texts.length; i++) {
             PulledPanels x = new PulledPanels();
-            due("fault of \"" + texts[i] + "\"", read(x, texts[i]), -100 - faults[i]);
+            due("fault of \"" + texts[i] + "\"", Lectures.read(x, texts[i]), -100 - faults[i]);
             due("steps after it", x.count(0), 0);
             due("states after it", x.count(14), 0);
         }
@@ -205,25 +172,25 @@ public final class PromisesTest {
         x.type((char) 0xff11);
         due("another kind of digit", x.readPlan(), -100);
         x.plan(1, 0);
-        due("as the plan is now", read(x, "1<0"), 2);
+        due("as the plan is now", Lectures.read(x, "1<0"), 2);
     }
 
     private static void readPlanNumbers() {
         Check.part("4 readPlan, numbers");
-        PulledPanels x = planned(1, 1, 1, 1, 1, 1, 1, 1, 1, 1);
-        due("two digits as large as the step", read(x, "1<10"), -103);
-        due("one digit", read(x, "1<9"), 11);
+        PulledPanels x = Lectures.planned(1, 1, 1, 1, 1, 1, 1, 1, 1, 1);
+        due("two digits as large as the step", Lectures.read(x, "1<10"), -103);
+        due("one digit", Lectures.read(x, "1<9"), 11);
         due("step(10, 1)", x.step(10, 1), 1 << 9);
-        due("two digits", read(x, "1<10,1,0"), 12);
+        due("two digits", Lectures.read(x, "1<10,1,0"), 12);
         due("step(11, 1)", x.step(11, 1), (1 << 10) + 3);
-        due("the second digit is too large", read(x, "1<12"), -103);
-        due("the second digit is not too large", read(x, "1<11"), 13);
+        due("the second digit is too large", Lectures.read(x, "1<12"), -103);
+        due("the second digit is not too large", Lectures.read(x, "1<11"), 13);
         due("step(12, 1)", x.step(12, 1), 1 << 11);
-        due("three digits", read(x, "1<111"), -104);
-        due("0 with a digit behind", read(x, "1<00"), -103);
-        due("a later number", read(x, "1<0,2,13"), -107);
-        due("20 of 13", read(x, "2<20"), -103);
-        due("9 of 13", read(x, "2<9,8"), 14);
+        due("three digits", Lectures.read(x, "1<111"), -104);
+        due("0 with a digit behind", Lectures.read(x, "1<00"), -103);
+        due("a later number", Lectures.read(x, "1<0,2,13"), -107);
+        due("20 of 13", Lectures.read(x, "2<20"), -103);
+        due("9 of 13", Lectures.read(x, "2<9,8"), 14);
         due("step(13, 1)", x.step(13, 1), (1 << 9) + (1 << 8));
     }
 
@@ -231,20 +198,20 @@ public final class PromisesTest {
         Check.part("4 readPlan, full");
         PulledPanels x = new PulledPanels();
         String thirty = "1" + ";1".repeat(29);
-        due("30 steps", read(x, thirty), 30);
-        due("one more", read(x, "1"), FULL);
-        due("a fault ahead of it", read(x, "1;x"), -102);
-        due("numbers from 30 on", read(x, "1;1<30;1<31,30"), FULL);
-        due("a number that is not less", read(x, "1;1<31"), -105);
+        due("30 steps", Lectures.read(x, thirty), 30);
+        due("one more", Lectures.read(x, "1"), FULL);
+        due("a fault ahead of it", Lectures.read(x, "1;x"), -102);
+        due("numbers from 30 on", Lectures.read(x, "1;1<30;1<31,30"), FULL);
+        due("a number that is not less", Lectures.read(x, "1;1<31"), -105);
         due("count(0)", x.count(0), 30);
         due("count(14)", x.count(14), 1);
-        x = planned(1);
-        due("31 steps", read(x, thirty), FULL);
+        x = Lectures.planned(1);
+        due("31 steps", Lectures.read(x, thirty), FULL);
         due("none of them", x.count(0), 1);
         x.undo();
-        due("30 steps", read(x, thirty), 30);
+        due("30 steps", Lectures.read(x, thirty), 30);
         x = new PulledPanels();
-        due("too early behind 60 characters", read(x, thirty + ";"), -160);
+        due("too early behind 60 characters", Lectures.read(x, thirty + ";"), -160);
     }
 
     private static void write() {
@@ -252,7 +219,7 @@ public final class PromisesTest {
         PulledPanels x = new PulledPanels();
         due("nothing planned", x.write(), NOT_POSSIBLE);
         due("count(14)", x.count(14), 0);
-        x = planned(4, 4, 4, 4, 1, 4, 4);
+        x = Lectures.planned(4, 4, 4, 4, 1, 4, 4);
         for (int want : new int[] {0, 0, 0, 1, 1, 1, 2}) {
             due("write()", x.write(), want);
         }
@@ -265,7 +232,7 @@ public final class PromisesTest {
         due("pulls", x.count(3), 1);
         due("panel(0, 0)", x.panel(0, 0), 7);
         due("panel(1, 0)", x.panel(1, 0), 0b111000);
-        x = full(8);
+        x = Lectures.full(8);
         for (int want : new int[] {0, 1, 2, 3, 4, 5, 0, 1}) {
             due("write() going round", x.write(), want);
         }
@@ -274,7 +241,7 @@ public final class PromisesTest {
         due("panel(0, 4)", x.panel(0, 4), 1);
         due("count(3)", x.count(3), 5);
         due("count(4)", x.count(4), 7);
-        x = planned(1);
+        x = Lectures.planned(1);
         x.pull(0);
         due("the panel in use is behind", x.write(), 0);
         due("it is pulled", x.panel(0, 2), 1);
@@ -283,7 +250,7 @@ public final class PromisesTest {
 
     private static void writePinned() {
         Check.part("5 write, pinned");
-        PulledPanels x = full(4);
+        PulledPanels x = Lectures.full(4);
         x.pin(0, true);
         due("a pinned panel in use with room", x.write(), 0);
         x.pin(1, true);
@@ -298,7 +265,7 @@ public final class PromisesTest {
         due("count(4)", x.count(4), 2);
         x.pin(3, false);
         due("round to 3", x.write(), 3);
-        x = full(1);
+        x = Lectures.full(1);
         for (int panel = 0; panel < 6; panel++) {
             x.pin(panel, true);
         }
@@ -307,7 +274,7 @@ public final class PromisesTest {
 
     private static void writeNeeds() {
         Check.part("5 write, needs");
-        PulledPanels x = full(1);
+        PulledPanels x = Lectures.full(1);
         x.plan(4, 1);
         x.write();
         due("write()", x.write(), 1);
@@ -318,37 +285,37 @@ public final class PromisesTest {
         due("0 was pulled, then 1", x.panel(1, 2), 1);
         due("pulls", x.count(3), 3);
         due("hidden", x.count(6), 1);
-        x = full(6);
-        writeTimes(x, 3);
+        x = Lectures.full(6);
+        Lectures.writeTimes(x, 3);
         x.photo(2);
-        writeTimes(x, 3);
+        Lectures.writeTimes(x, 3);
         x.plan(4, 0b1);
         x.plan(1, 0b1);
         x.plan(3, 0b1000101);
         due("the panel is wiped for it", x.write(), 0);
         due("so what it needs is lost", x.count(8), 1);
-        writeTimes(x, 2);
+        Lectures.writeTimes(x, 2);
         due("lost again", x.count(8), 3);
         x.plan(4, 0b100);
         x.write();
         due("a photo alone", x.count(7), 1);
         due("lost", x.count(8), 3);
-        x = full(7);
+        x = Lectures.full(7);
         x.write();
         x.photo(0);
-        writeTimes(x, 6);
+        Lectures.writeTimes(x, 6);
         x.plan(4, 0b11);
         due("write()", x.write(), 1);
         due("a photo alone", x.count(7), 1);
         due("lost by this very write", x.count(8), 1);
-        x = full(3);
+        x = Lectures.full(3);
         x.plan(1, 0b11);
-        writeTimes(x, 4);
+        Lectures.writeTimes(x, 4);
         due("the lowest first", x.panel(1, 2), 1);
         due("pulls: 1, 3, and both of 0", x.count(3), 4);
-        x = planned(1);
+        x = Lectures.planned(1);
         x.plan(1, 1);
-        writeTimes(x, 2);
+        Lectures.writeTimes(x, 2);
         due("needed and in front", x.count(6) + x.count(7) + x.count(8) + x.count(3), 0);
     }
 
@@ -393,8 +360,8 @@ public final class PromisesTest {
 
     private static void wipe() {
         Check.part("8 wipe");
-        PulledPanels x = planned(1, 1, 1);
-        writeTimes(x, 2);
+        PulledPanels x = Lectures.planned(1, 1, 1);
+        Lectures.writeTimes(x, 2);
         for (int panel : new int[] {-1, 6, LEAST, MOST}) {
             due("wipe(" + panel + ")", x.wipe(panel), UNKNOWN);
         }
@@ -422,12 +389,12 @@ public final class PromisesTest {
 
     private static void photo() {
         Check.part("9 photo");
-        PulledPanels x = planned(1, 1, 1);
+        PulledPanels x = Lectures.planned(1, 1, 1);
         for (int panel : new int[] {-1, 6, LEAST, MOST}) {
             due("photo(" + panel + ")", x.photo(panel), UNKNOWN);
         }
         due("empty", x.photo(0), NOT_POSSIBLE);
-        writeTimes(x, 2);
+        Lectures.writeTimes(x, 2);
         x.pull(0);
         due("behind", x.photo(0), NOT_POSSIBLE);
         due("in front and empty", x.photo(1), NOT_POSSIBLE);
@@ -453,12 +420,12 @@ public final class PromisesTest {
 
     private static void ask() {
         Check.part("10 ask");
-        PulledPanels x = full(4);
+        PulledPanels x = Lectures.full(4);
         for (int step : new int[] {-1, 4, 30, 32, LEAST, MOST}) {
             due("ask(" + step + ")", x.ask(step), UNKNOWN);
         }
         due("not yet written", x.ask(0), NOT_POSSIBLE);
-        writeTimes(x, 2);
+        Lectures.writeTimes(x, 2);
         due("not yet written", x.ask(2), NOT_POSSIBLE);
         due("in front", x.ask(1), 0);
         due("behind, in the column of the panel in use", x.ask(0), 1);
@@ -483,7 +450,7 @@ public final class PromisesTest {
         due("step(0, 5)", x.step(0, 5), 4);
         due("step(3, 5)", x.step(3, 5), 0);
         due("hidden, photo, lost as needed", x.count(6) + x.count(7) + x.count(8), 0);
-        x = full(1);
+        x = Lectures.full(1);
         x.write();
         x.photo(0);
         due("a panel goes ahead of a photo", x.ask(0), 0);
@@ -510,7 +477,7 @@ public final class PromisesTest {
 
     private static void undo() {
         Check.part("13 undo");
-        PulledPanels x = full(3);
+        PulledPanels x = Lectures.full(3);
         due("undo()", x.undo(), 3);
         due("count(0)", x.count(0), 2);
         x.write();
@@ -539,12 +506,12 @@ public final class PromisesTest {
     }
 
     private static void undoOfCounts() {
-        PulledPanels x = full(2);
+        PulledPanels x = Lectures.full(2);
         x.plan(1, 0b11);
         x.plan(1, 0b11);
         x.write();
         x.photo(0);
-        writeTimes(x, 2);
+        Lectures.writeTimes(x, 2);
         due("hidden, and pulled", x.count(3), 3);
         x.wipe(1);
         x.ask(0);
@@ -562,17 +529,17 @@ public final class PromisesTest {
         due("lost questions, undone", x.count(11), 0);
         x.undo();
         due("questions from photos, undone", x.count(10), 0);
-        x = full(1);
+        x = Lectures.full(1);
         x.plan(4, 1);
-        writeTimes(x, 2);
+        Lectures.writeTimes(x, 2);
         due("hidden", x.count(6), 1);
         x.undo();
         due("hidden, undone", x.count(6), 0);
     }
 
     private static void undoOfPhotos() {
-        PulledPanels x = full(3);
-        writeTimes(x, 3);
+        PulledPanels x = Lectures.full(3);
+        Lectures.writeTimes(x, 3);
         x.keep();
         x.photo(1);
         x.undo();
@@ -606,7 +573,7 @@ public final class PromisesTest {
 
     private static void actsRecord() {
         Check.part("13 undo, what is recorded");
-        PulledPanels x = planned(1, 1);
+        PulledPanels x = Lectures.planned(1, 1);
         while (x.undo() >= 1) {
             continue;
         }
@@ -660,9 +627,9 @@ public final class PromisesTest {
 
     private static void keepAndRestore() {
         Check.part("14 keep");
-        PulledPanels x = full(3);
+        PulledPanels x = Lectures.full(3);
         due("keep()", x.keep(), 0);
-        writeTimes(x, 2);
+        Lectures.writeTimes(x, 2);
         due("keep()", x.keep(), 2);
         x.write();
         x.type('1');
@@ -696,8 +663,8 @@ public final class PromisesTest {
 
     private static void panel() {
         Check.part("16 panel");
-        PulledPanels x = planned(4, 4, 3, 2);
-        writeTimes(x, 3);
+        PulledPanels x = Lectures.planned(4, 4, 3, 2);
+        Lectures.writeTimes(x, 3);
         x.photo(0);
         x.write();
         x.pin(1, true);
@@ -716,11 +683,11 @@ public final class PromisesTest {
 
     private static void step() {
         Check.part("17 step");
-        PulledPanels x = full(1);
+        PulledPanels x = Lectures.full(1);
         x.plan(4, 1);
         x.plan(3, 3);
         x.plan(2, 1);
-        writeTimes(x, 3);
+        Lectures.writeTimes(x, 3);
         x.photo(1);
         x.ask(1);
         x.ask(1);
@@ -748,10 +715,10 @@ public final class PromisesTest {
 
     private static void photoOf() {
         Check.part("18 photoOf");
-        PulledPanels x = full(3);
+        PulledPanels x = Lectures.full(3);
         x.write();
         x.photo(0);
-        writeTimes(x, 2);
+        Lectures.writeTimes(x, 2);
         x.photo(2);
         due("photoOf(0, 0)", x.photoOf(0, 0), 0);
         due("photoOf(0, 1)", x.photoOf(0, 1), 1);
@@ -771,7 +738,7 @@ public final class PromisesTest {
         }
         due("photoOf(0, 2)", x.photoOf(0, 2), BAD_VALUE);
         due("photoOf(0, MOST)", x.photoOf(0, MOST), BAD_VALUE);
-        x = full(1);
+        x = Lectures.full(1);
         x.write();
         for (int i = 0; i < 40; i++) {
             x.photo(0);
@@ -782,7 +749,7 @@ public final class PromisesTest {
 
     private static void wouldBe() {
         Check.part("19 wouldBe");
-        PulledPanels x = full(3);
+        PulledPanels x = Lectures.full(3);
         x.plan(4, 0b001);
         x.plan(4, 0b100);
         x.plan(4, 0b100);
@@ -805,17 +772,17 @@ public final class PromisesTest {
         for (int wrong : new int[] {-1, 6, LEAST, MOST}) {
             due("wouldBe(" + wrong + ")", x.wouldBe(wrong), BAD_VALUE);
         }
-        x = full(1);
+        x = Lectures.full(1);
         x.plan(4, 1);
         due("hidden", x.wouldBe(2), 1);
-        writeTimes(x, 2);
+        Lectures.writeTimes(x, 2);
         for (int what = 0; what <= 5; what++) {
             due("from now on: wouldBe(" + what + ")", x.wouldBe(what), 0);
         }
         due("but so far", x.count(6), 1);
-        x = full(2);
+        x = Lectures.full(2);
         x.plan(1, 0b11);
-        writeTimes(x, 2);
+        Lectures.writeTimes(x, 2);
         x.photo(1);
         x.wipe(1);
         x.pull(0);
@@ -831,7 +798,7 @@ public final class PromisesTest {
 
     private static void wouldBeUpToOne() {
         Check.part("19 wouldBe, up to one that cannot be");
-        PulledPanels x = full(3);
+        PulledPanels x = Lectures.full(3);
         for (int panel = 1; panel < 6; panel++) {
             x.pin(panel, true);
         }
@@ -847,7 +814,7 @@ public final class PromisesTest {
 
     private static void photosNeeded() {
         Check.part("20 photosNeeded");
-        PulledPanels x = full(6);
+        PulledPanels x = Lectures.full(6);
         due("nothing is lost", x.photosNeeded(), 0);
         for (int i = 0; i < 8; i++) {
             x.plan(4, 0);
@@ -860,7 +827,7 @@ public final class PromisesTest {
         due("nothing is changed", x.count(5), 1);
         x.pin(0, true);
         due("a pinned one is not wiped", x.photosNeeded(), 8);
-        x = planned(1, 1);
+        x = Lectures.planned(1, 1);
         x.setRoom(4);
         x.write();
         x.photo(0);
@@ -871,13 +838,13 @@ public final class PromisesTest {
         due("one step of two is on no photo", x.photosNeeded(), 1);
         x.photo(0);
         due("both are", x.photosNeeded(), 0);
-        x = full(8);
-        writeTimes(x, 6);
+        x = Lectures.full(8);
+        Lectures.writeTimes(x, 6);
         due("panels that are behind too", x.photosNeeded(), 2);
         x.ask(0);
         x.wipe(0);
         due("a lost one needs none", x.photosNeeded(), 1);
-        x = full(8);
+        x = Lectures.full(8);
         x.write();
         for (int i = 0; i < 40; i++) {
             x.photo(0);
@@ -888,13 +855,13 @@ public final class PromisesTest {
 
     private static void count() {
         Check.part("21 count");
-        PulledPanels x = full(7);
+        PulledPanels x = Lectures.full(7);
         x.plan(4, 0b1000101);
         x.plan(1, 0b1);
-        writeTimes(x, 2);
+        Lectures.writeTimes(x, 2);
         x.pull(0);
         x.photo(0);
-        writeTimes(x, 6);
+        Lectures.writeTimes(x, 6);
         x.ask(0);
         x.ask(1);
         x.ask(7);
