@@ -1,12 +1,18 @@
 import com.sun.source.tree.BinaryTree;
+import com.sun.source.tree.BlockTree;
+import com.sun.source.tree.ClassTree;
 import com.sun.source.tree.CompilationUnitTree;
+import com.sun.source.tree.DoWhileLoopTree;
+import com.sun.source.tree.ExpressionTree;
 import com.sun.source.tree.ForLoopTree;
 import com.sun.source.tree.LiteralTree;
 import com.sun.source.tree.MethodInvocationTree;
 import com.sun.source.tree.MethodTree;
+import com.sun.source.tree.NewArrayTree;
 import com.sun.source.tree.NewClassTree;
 import com.sun.source.tree.Tree;
 import com.sun.source.tree.VariableTree;
+import com.sun.source.tree.WhileLoopTree;
 import com.sun.source.util.JavacTask;
 import com.sun.source.util.TreePath;
 import com.sun.source.util.TreePathScanner;
@@ -19,6 +25,7 @@ import java.util.List;
 import java.util.Map;
 import java.util.Set;
 import javax.lang.model.element.Element;
+import javax.lang.model.element.ElementKind;
 import javax.lang.model.element.Modifier;
 import javax.lang.model.type.ArrayType;
 import javax.lang.model.type.TypeKind;
@@ -51,6 +58,11 @@ public final class LanguageTest extends TreePathScanner<Void, Void> {
         "java.lang.Enum", Set.of("<init>"),
         "java.lang.Record", Set.of("<init>"));
     private static final Set<String> NUMBERS = Set.of("java.lang.Integer", "java.lang.Long", "java.lang.Math");
+    private static final Set<String> STATIC_TYPES = Set.of("int", "long", "boolean", "char", "java.lang.String");
+    private static final Set<String> STATIC_ROWS = Set.of("int[]", "long[]", "char[]", "byte[]");
+    private static final Set<String> ENUM_TYPES = Set.of("int", "long", "boolean", "java.lang.String");
+    private static final Set<String> COMPARED_BY_EQUALS = Set.of("java.lang.String", "java.lang.Integer");
+    private static final Set<String> NOT_OWN = Set.of("equals", "hashCode", "toString");
 
     private final Trees trees;
     private final Map<Element, Set<Element>> callsOf = new HashMap<>();
@@ -85,12 +97,39 @@ public final class LanguageTest extends TreePathScanner<Void, Void> {
     }
 
     @Override
+    public Void visitClass(ClassTree type, Void nothing) {
+        Tree around = getCurrentPath().getParentPath().getLeaf();
+        Check.holds("rule 2: inside a class or the file: " + type.getSimpleName(),
+            around instanceof ClassTree || around instanceof CompilationUnitTree);
+        return super.visitClass(type, nothing);
+    }
+
+    @Override
+    public Void visitBlock(BlockTree block, Void nothing) {
+        Check.holds("rule 5: no static initialiser: " + block, !block.isStatic());
+        return super.visitBlock(block, nothing);
+    }
+
+    @Override
     public Void visitVariable(VariableTree variable, Void nothing) {
         Element element = trees.getElement(getCurrentPath());
         Check.holds("rule 3: the type of " + variable, isAllowed(element.asType()));
-        boolean isStatic = element.getModifiers().contains(Modifier.STATIC);
-        Check.holds("rule 5: final if static: " + variable, !isStatic || element.getModifiers().contains(Modifier.FINAL));
+        if (element.getKind() == ElementKind.FIELD && element.getModifiers().contains(Modifier.STATIC)) {
+            staticField(variable, element);
+        } else if (element.getKind() == ElementKind.FIELD && element.getEnclosingElement().getKind() == ElementKind.ENUM) {
+            Check.holds("rule 2: an enum's field " + variable, ENUM_TYPES.contains(element.asType().toString()));
+        }
         return super.visitVariable(variable, nothing);
+    }
+
+    private void staticField(VariableTree variable, Element field) {
+        String type = field.asType().toString();
+        boolean isWrittenOut = variable.getInitializer() instanceof NewArrayTree row && row.getInitializers() != null;
+        // values() of an enum may be kept once, says rule 12
+        boolean isValues = field.asType().getKind() == TypeKind.ARRAY && isOwn(type.replace("[]", ""));
+        Check.holds("rule 5: final if static: " + variable, field.getModifiers().contains(Modifier.FINAL));
+        Check.holds("rule 5: the type of the static " + variable,
+            STATIC_TYPES.contains(type) || STATIC_ROWS.contains(type) && isWrittenOut || isValues);
     }
 
     private boolean isAllowed(TypeMirror type) {
@@ -110,6 +149,7 @@ public final class LanguageTest extends TreePathScanner<Void, Void> {
     @Override
     public Void visitMethod(MethodTree method, Void nothing) {
         callsOf.computeIfAbsent(trees.getElement(getCurrentPath()), e -> new LinkedHashSet<>());
+        Check.holds("rule 6: no own " + method.getName(), !NOT_OWN.contains(method.getName().toString()));
         Check.holds("rule 11: parameters of " + method.getName(), method.getParameters().size() <= 7);
         Check.holds("rule 11: lines of " + method.getName(), lines(method) <= LONGEST);
         return super.visitMethod(method, nothing);
@@ -160,14 +200,41 @@ public final class LanguageTest extends TreePathScanner<Void, Void> {
     @Override
     public Void visitForLoop(ForLoopTree loop, Void nothing) {
         Check.holds("rule 9: a loop with an end", loop.getCondition() != null);
+        hasEnd(loop.getCondition());
         return super.visitForLoop(loop, nothing);
+    }
+
+    @Override
+    public Void visitWhileLoop(WhileLoopTree loop, Void nothing) {
+        hasEnd(loop.getCondition());
+        return super.visitWhileLoop(loop, nothing);
+    }
+
+    @Override
+    public Void visitDoWhileLoop(DoWhileLoopTree loop, Void nothing) {
+        hasEnd(loop.getCondition());
+        return super.visitDoWhileLoop(loop, nothing);
+    }
+
+    private static void hasEnd(ExpressionTree condition) {
+        String text = String.valueOf(condition).replaceAll("[() ]", "");
+        Check.holds("rule 9: a loop with an end: " + condition, !text.equals("true"));
     }
 
     @Override
     public Void visitBinary(BinaryTree binary, Void nothing) {
         String type = trees.getTypeMirror(getCurrentPath()).toString();
         Check.holds("rule 10: texts are not joined by +: " + binary, !type.equals("java.lang.String"));
+        if (binary.getKind() == Tree.Kind.EQUAL_TO || binary.getKind() == Tree.Kind.NOT_EQUAL_TO) {
+            boolean both = isComparedByEquals(binary.getLeftOperand()) && isComparedByEquals(binary.getRightOperand());
+            Check.holds("rule 6: not compared by ==: " + binary, !both);
+        }
         return super.visitBinary(binary, nothing);
+    }
+
+    private boolean isComparedByEquals(ExpressionTree operand) {
+        TypeMirror type = trees.getTypeMirror(new TreePath(getCurrentPath(), operand));
+        return type != null && COMPARED_BY_EQUALS.contains(type.toString());
     }
 
     @Override
